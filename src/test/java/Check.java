@@ -1,0 +1,112 @@
+import java.util.Objects;
+
+/** What all tests use: a container with a short way to type and read, and a count of what went wrong. */
+final class Check {
+    static final int NONE = WiredBeans.NONE;
+
+    private static int wrong = 0;
+
+    private Check() {
+    }
+
+    static void is(String what, Object got, Object due) {
+        if (!Objects.equals(got, due)) {
+            wrong++;
+            System.out.println(what + ": answered " + got + ", due is " + due);
+        }
+    }
+
+    /** Ends the test: exit code 1 if anything was wrong. */
+    static void end() {
+        System.out.println(wrong == 0 ? "all answers are as due" : wrong + " wrong answers");
+        System.exit(wrong == 0 ? 0 : 1);
+    }
+
+    /** Types a whole text, 20 characters a call. */
+    static void type(WiredBeans beans, String text) {
+        for (int start = 0; start < text.length(); start += 20) {
+            beans.type(four(text, start), four(text, start + 4), four(text, start + 8),
+                    four(text, start + 12), four(text, start + 16));
+        }
+    }
+
+    /** Four characters of a text from a place on, the highest byte first, 0 behind the end. */
+    static int four(String text, int start) {
+        int sum = 0;
+        for (int i = start; i < start + 4; i++) {
+            sum = sum << 8 | (i < text.length() ? text.charAt(i) : 0);
+        }
+        return sum;
+    }
+
+    static long name(String letters) {
+        long sum = 0;
+        for (int i = 0; i < letters.length(); i++) {
+            sum = sum << 8 | letters.charAt(i);
+        }
+        return sum;
+    }
+
+    /** What read() answers, or "throws" and the fault with its place. */
+    static String read(WiredBeans beans, String text) {
+        type(beans, text);
+        try {
+            return "" + beans.read();
+        } catch (IllegalArgumentException e) {
+            return "throws " + beans.fault(0) + " at " + beans.fault(1);
+        }
+    }
+
+    /** What get() answers, or what it throws; of a failure its number and bean. */
+    static String get(WiredBeans beans, String name) {
+        try {
+            return "" + beans.get(name(name));
+        } catch (IllegalStateException e) {
+            return "no document";
+        } catch (UnsupportedOperationException e) {
+            return "fails " + beans.fault(2) + " at " + beans.fault(3);
+        }
+    }
+
+    static String refresh(WiredBeans beans) {
+        try {
+            return "" + beans.refresh();
+        } catch (IllegalStateException e) {
+            return "no document";
+        } catch (UnsupportedOperationException e) {
+            return "fails " + beans.fault(2) + " at " + beans.fault(3);
+        }
+    }
+
+    static String call(WiredBeans beans, int object, char name) {
+        try {
+            return "" + beans.call(object, name - 'a');
+        } catch (IllegalStateException e) {
+            return "no document";
+        } catch (IndexOutOfBoundsException e) {
+            return "nothing there";
+        } catch (UnsupportedOperationException e) {
+            return "fails " + beans.fault(2) + " at " + beans.fault(3);
+        }
+    }
+
+    /** All events as "what object second third", with / between them. */
+    static String events(WiredBeans beans) {
+        StringBuilder all = new StringBuilder();
+        for (int k = 0; k < beans.events(); k++) {
+            all.append(k == 0 ? "" : "/");
+            for (int what = 0; what < 4; what++) {
+                all.append(what == 0 ? "" : " ").append(beans.event(k, what));
+            }
+        }
+        return all.toString();
+    }
+
+    /** A container whose document is the text within beans, refused by nothing. */
+    static WiredBeans with(WiredBeans beans, String inner) {
+        String text = "<beans>" + inner + "</beans>";
+        String answer = read(beans, text);
+        is("reading " + text, answer.startsWith("throws") ? answer : "read", "read");
+        return beans;
+    }
+}
