@@ -22,8 +22,9 @@ final class Check {
         System.exit(wrong == 0 ? 0 : 1);
     }
 
-    /** Types a whole text, 20 characters a call. */
-    static void type(WiredBeans beans, String text) {
+    /** Types a whole text, 20 characters a call, with " for each ' so that tests can be read. */
+    static void type(WiredBeans beans, String readable) {
+        String text = readable.replace('\'', '"');
         for (int start = 0; start < text.length(); start += 20) {
             beans.type(four(text, start), four(text, start + 4), four(text, start + 8),
                     four(text, start + 12), four(text, start + 16));
@@ -102,11 +103,23 @@ final class Check {
         return all.toString();
     }
 
-    /** A container whose document is the text within beans, refused by nothing. */
-    static WiredBeans with(WiredBeans beans, String inner) {
+    /** Reads a document of these elements within beans, which must have no fault. */
+    static void with(WiredBeans beans, String inner) {
         String text = "<beans>" + inner + "</beans>";
         String answer = read(beans, text);
         is("reading " + text, answer.startsWith("throws") ? answer : "read", "read");
+    }
+
+    /** A container with class 0, its children 1 and 2, a child 3 of 2, and what each of them has in the tests. */
+    static WiredBeans family() {
+        WiredBeans beans = new WiredBeans();
+        beans.declare(0, NONE);
+        beans.declare(1, 0);
+        beans.declare(2, 0);
+        beans.declare(3, 2);
+        for (int c = 0; c < 4; c++) {
+            beans.constructor(c, 0, 0, 0, 0);
+        }
         return beans;
     }
 }

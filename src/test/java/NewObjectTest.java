@@ -20,7 +20,7 @@ final class NewObjectTest {
         Check.is("the text is empty", beans.type(0, 0, 0, 0, 'x'), 1);
 
         WiredBeans bare = new WiredBeans();
-        Check.with(bare, "<bean id=\"a\" class=\"K0\"/><bean id=\"b\" class=\"K7\" method=\"a\"/>");
+        Check.with(bare, "<bean id='a' class='K0'/><bean id='b' class='K7' method='a'/>");
         Check.is("a class has no constructor", Check.get(bare, "a"), "fails 5 at 0");
         Check.is("a class has no factory", Check.get(bare, "b"), "fails 5 at 1");
         Check.is("setters are free", bare.setter(0, 0, 0), true);

@@ -1,0 +1,28 @@
+/** Promise 15. */
+final class ObjectTest {
+    private ObjectTest() {
+    }
+
+    public static void main(String[] args) {
+        WiredBeans beans = Check.family();
+        beans.factory(2, 0, true, 3, 0, 0, 0, 0);
+        beans.setter(0, 0, 8);
+        Check.with(beans, "<bean id='a' class='K1'/><bean id='b' class='K2' method='a'>"
+                + "<set name='a'><bean class='K0'/></set></bean><bean id='c' parent='a'/>");
+        Check.is("none yet", beans.object(0, 0), Check.NONE);
+        Check.refresh(beans);
+        Check.is("of a constructor", beans.object(0, 0) + " " + beans.object(0, 1), "1 0");
+        Check.is("of a factory", beans.object(1, 0) + " " + beans.object(1, 1), "3 1");
+        Check.is("within another one", beans.object(2, 0) + " " + beans.object(2, 1), "0 2");
+        Check.is("with a parent", beans.object(3, 0) + " " + beans.object(3, 1), "1 3");
+        Check.is("object 4", beans.object(4, 0) + " " + beans.object(4, 1), "-1 -1");
+        Check.is("object -1", beans.object(-1, 0) + " " + beans.object(-1, 1), "-1 -1");
+        Check.is("another what", beans.object(0, 2) + " " + beans.object(0, -1), "-1 -1");
+        Check.is("extremes", beans.object(Integer.MAX_VALUE, Integer.MAX_VALUE), Check.NONE);
+        beans.declare(1, -1);
+        Check.is("its class stays", beans.object(0, 0), 1);
+        beans.close();
+        Check.is("it stays when closed", beans.object(3, 1), 3);
+        Check.end();
+    }
+}
