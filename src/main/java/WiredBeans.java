@@ -409,7 +409,7 @@ public final class WiredBeans {
     /** An element as it was read, and (below) what the wiring knows of it once it is known to be right. */
     private static final class Element {
         static final int LONGEST_TEXT = 24;
-        static final long NO_NUMBER = Long.MAX_VALUE;
+        static final long NO_NUMBER = 1L << 40;
         private static final int MOST_DIGITS = 10;
 
         final char[] text;
