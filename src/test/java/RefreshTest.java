@@ -50,6 +50,7 @@ final class RefreshTest {
         Check.is("objects stay", beans.object(2, 0), 2);
         beans.setter(2, 'x' - 'a', 3);
         Check.is("works now", Check.refresh(beans), "7");
+        Check.is("no failure any more", beans.fault(2) + " " + beans.fault(3), "0 -1");
         Check.is("made", beans.bean(0, 10), 1);
     }
 }
