@@ -62,6 +62,7 @@ final class DocumentTest {
         wrong("<beans/><!--^");
         wrong("<beans/><!--a-^");
         wrong("<beans/><!--a--^");
+        wrong("<beans/><!--a-^-b");
         wrong("<beans><!^[CDATA[x]]></beans>");
         wrong("<^?xml?><beans/>");
     }

@@ -41,6 +41,11 @@ final class ReuseTest {
         Check.is("refresh", Check.refresh(beans), "4");
         Check.is("events", Check.events(beans),
                 "1 0 2 1/3 0 0 1/1 1 2 2/3 1 0 1003/1 2 2 2/3 2 0 1000/1 3 2 2/3 3 0 1003");
+        String value = "<bean id='a' class='K2'><arg><value>1#3</value></arg></bean>";
+        Check.with(beans, value.replace('#', '2'));
+        Check.with(beans, value.replace('#', ' '));
+        Check.is("white in the place of a digit", Check.refresh(beans), "1");
+        Check.is("a text", Check.events(beans), "1 0 2 2/3 0 0 1003");
         Check.is("only aliases", Check.read(beans, "<beans><alias name='q' to='a'/><alias name='q' to='b'/></beans>"), "0");
         Check.is("an alias of nothing", Check.get(beans, "a"), "fails 1 at -1");
         Check.is("an alias of before", Check.get(beans, "x"), "fails 1 at -1");

@@ -205,6 +205,7 @@ final class StructureTest {
         inBean(sets + arg.repeat(4));
         wrongInBean(sets + "^<set name='i' value=''/>");
         wrongInBean("<set name='a' value='1'/><set name='b' value='1'/>^<set name='a' value='2'/>");
+        wrongInBean("<set name='a' value='1'/><set name='b' value='1'/>^<set name='b' value='2'/>");
         String lookups = "<lookup name='a' bean='a'/><lookup name='b' bean='a'/>";
         inBean(lookups + "<set name='a' value='1'/>");
         wrongInBean(lookups + "^<lookup name='c' bean='a'/>");
