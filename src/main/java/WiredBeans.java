@@ -1441,16 +1441,16 @@ public final class WiredBeans {
                 return true;
             }
             Bean above = withId(child.parent);
-            if (above == null) {
-                return false;
-            }
+            return above != null && comesToAnEnd(above);
+        }
+
+        /** A line of parents longer than there can be beans runs in a ring. */
+        private boolean comesToAnEnd(Bean start) {
+            Bean above = start;
             for (int up = 0; up < Paper.MOST_ELEMENTS && above != null; up++) {
-                if (above == child) {
-                    return false;
-                }
                 above = withId(above.parent);
             }
-            return true;
+            return above == null;
         }
 
         private void merge(Bean merged) {

@@ -6,7 +6,9 @@ final class BeanTest {
     public static void main(String[] args) {
         asMerged();
         made();
+        madeWithin();
         wrongNumbers();
+        letters();
         Check.end();
     }
 
@@ -45,6 +47,45 @@ final class BeanTest {
         Check.is("it failed, but not what it needed", beans.bean(1, 10) + " " + beans.bean(2, 10), "1 0");
         beans.close();
         Check.is("closed", beans.bean(0, 10) + " " + beans.bean(1, 10), "0 0");
+    }
+
+    /** "Then it is made": so of scope many, too, and within another one, until it is closed or refreshed. */
+    private static void madeWithin() {
+        WiredBeans beans = Check.family();
+        beans.setter(0, 0, 8);
+        Check.with(beans, "<bean id='a' class='K0' scope='many'/><bean id='b' class='K1' lazy='yes'><set name='a'>"
+                + "<bean class='K2'/></set></bean><bean id='c' class='K3' abstract='yes'/>");
+        Check.is("none yet", beans.bean(0, 10) + " " + beans.bean(1, 10) + " " + beans.bean(2, 10), "0 0 0");
+        Check.get(beans, "a");
+        Check.is("of scope many", beans.bean(0, 10) + " " + beans.bean(1, 10) + " " + beans.bean(2, 10), "1 0 0");
+        Check.get(beans, "b");
+        Check.is("within another one", beans.bean(0, 10) + " " + beans.bean(1, 10) + " " + beans.bean(2, 10), "1 1 1");
+        Check.get(beans, "c");
+        Check.is("an abstract one never", beans.bean(3, 10), 0);
+        Check.is("refresh", Check.refresh(beans), "3");
+        Check.is("none any more", beans.bean(0, 10) + " " + beans.bean(1, 10) + " " + beans.bean(2, 10), "0 0 0");
+        Check.get(beans, "b");
+        beans.close();
+        Check.is("none when closed", beans.bean(0, 10) + " " + beans.bean(1, 10) + " " + beans.bean(2, 10), "0 0 0");
+    }
+
+    /** "method (4), init (5), destroy (6) as 0 .. 25, NONE without", class K0 .. K7, all from the first to the last. */
+    private static void letters() {
+        for (char letter = 'a'; letter <= 'z'; letter++) {
+            WiredBeans beans = new WiredBeans();
+            Check.with(beans, "<bean id='a' class='K0' method='#' init='#' destroy='#'/>".replace('#', letter));
+            for (int what = 4; what <= 6; what++) {
+                Check.is(letter + " as " + what, beans.bean(0, what), letter - 'a');
+            }
+        }
+        for (char digit = '0'; digit <= '7'; digit++) {
+            WiredBeans beans = new WiredBeans();
+            Check.with(beans, "<bean id='a' class='K#'/>".replace('#', digit));
+            Check.is("class " + digit, all(beans, 0), (digit - '0') + " 0 0 0 -1 -1 -1 0 0 0 0 7");
+        }
+        WiredBeans beans = new WiredBeans();
+        Check.read(beans, " \n<!---->\n<beans>\n<bean id='a' abstract='yes'/></beans>");
+        Check.is("the place of its <", all(beans, 0), "-1 0 0 0 -1 -1 -1 1 0 0 0 18");
     }
 
     private static void wrongNumbers() {

@@ -22,9 +22,13 @@ final class Check {
         System.exit(wrong == 0 ? 0 : 1);
     }
 
-    /** Types a whole text, 20 characters a call, with " for each ' so that tests can be read. */
+    /** Types a whole text with " for each ' so that tests can be read. */
     static void type(WiredBeans beans, String readable) {
-        String text = readable.replace('\'', '"');
+        typeExactly(beans, readable.replace('\'', '"'));
+    }
+
+    /** Types a whole text, 20 characters a call. */
+    static void typeExactly(WiredBeans beans, String text) {
         for (int start = 0; start < text.length(); start += 20) {
             beans.type(four(text, start), four(text, start + 4), four(text, start + 8),
                     four(text, start + 12), four(text, start + 16));
@@ -51,6 +55,11 @@ final class Check {
     /** What read() answers, or "throws" and the fault with its place. */
     static String read(WiredBeans beans, String text) {
         type(beans, text);
+        return read(beans);
+    }
+
+    /** The same of what has been typed already. */
+    static String read(WiredBeans beans) {
         try {
             return "" + beans.read();
         } catch (IllegalArgumentException e) {
@@ -108,6 +117,16 @@ final class Check {
         String text = "<beans>" + inner + "</beans>";
         String answer = read(beans, text);
         is("reading " + text, answer.startsWith("throws") ? answer : "read", "read");
+    }
+
+    /** A container whose eight classes are each the parent of the next one, with a constructor without types. */
+    static WiredBeans eightInOneLine() {
+        WiredBeans beans = new WiredBeans();
+        for (int c = 0; c < 8; c++) {
+            beans.declare(c, c - 1);
+            beans.constructor(c, 0, 0, 0, 0);
+        }
+        return beans;
     }
 
     /** A container with class 0, its children 1 and 2, a child 3 of 2, and what each of them has in the tests. */

@@ -5,7 +5,10 @@ final class ConstructorTest {
 
     public static void main(String[] args) {
         numbers();
+        eachType();
+        eachClassAndCount();
         room();
+        refusedTakesNoRoom();
         notThoseOfTheParent();
         Check.end();
     }
@@ -25,6 +28,52 @@ final class ConstructorTest {
         Check.is("only the first counts", beans.constructor(0, 1, 15, 6, 7), true);
         Check.is("only the first two count", beans.constructor(0, 2, 4, 8, 7), true);
         Check.is("three", beans.constructor(0, 3, 0, 1, 2), true);
+    }
+
+    /** "TYPES: 0 int, 1 truth, 2 character, 3 text, 4 row, 8 + c class c", at each place, and "of a, b, b2 the first n". */
+    private static void eachType() {
+        for (int type = -2; type <= 17; type++) {
+            boolean isType = type >= 0 && type <= 4 || type >= 8 && type <= 15;
+            for (int n = 0; n <= 3; n++) {
+                WiredBeans beans = new WiredBeans();
+                String what = n + " types with " + type + " at ";
+                Check.is(what + "0", beans.constructor(0, n, type, 0, 0), isType || n < 1);
+                Check.is(what + "1", beans.constructor(0, n, 0, type, 0), isType || n < 2);
+                Check.is(what + "2", beans.constructor(0, n, 0, 0, type), isType || n < 3);
+            }
+        }
+    }
+
+    /** "CLASSES 0 .. 7", "each with 0 .. 3 types". */
+    private static void eachClassAndCount() {
+        for (int c = -2; c <= 9; c++) {
+            Check.is("class " + c, new WiredBeans().constructor(c, 3, 0, 0, 0), c >= 0 && c <= 7);
+        }
+        for (int n = -2; n <= 5; n++) {
+            Check.is(n + " types", new WiredBeans().constructor(0, n, 0, 0, 0), n >= 0 && n <= 3);
+        }
+        for (int far : new int[] {Integer.MIN_VALUE, Integer.MAX_VALUE, 256, -256}) {
+            Check.is("class " + far, new WiredBeans().constructor(far, 0, 0, 0, 0), false);
+            Check.is(far + " types", new WiredBeans().constructor(0, far, 0, 0, 0), false);
+        }
+    }
+
+    /** "up to 4 CONSTRUCTORS": a call that is refused leaves room and what is there as they were. */
+    private static void refusedTakesNoRoom() {
+        WiredBeans beans = new WiredBeans();
+        beans.constructor(1, 1, 3, 0, 0);
+        for (int i = 0; i < 5; i++) {
+            beans.constructor(1, 1, 5, 0, 0);
+            beans.constructor(1, 4, 0, 0, 0);
+        }
+        Check.is("second", beans.constructor(1, 1, 2, 0, 0), true);
+        Check.is("third", beans.constructor(1, 1, 1, 0, 0), true);
+        Check.is("fourth", beans.constructor(1, 1, 0, 0, 0), true);
+        Check.is("fifth", beans.constructor(1, 0, 0, 0, 0), false);
+        Check.is("in another class", beans.constructor(2, 0, 0, 0, 0), true);
+        Check.with(beans, "<bean id='a' class='K1'><arg value='xy'/></bean><bean id='b' class='K1'><arg value='1'/></bean>");
+        Check.is("refresh", Check.refresh(beans), "2");
+        Check.is("the first and the fourth", Check.events(beans), "1 0 1 0/3 0 0 1002/1 1 1 3/3 1 0 1");
     }
 
     private static void room() {

@@ -5,6 +5,9 @@ final class DeclareTest {
 
     public static void main(String[] args) {
         numbers();
+        eachPair();
+        upToTheEighth();
+        refusedTwice();
         nothingElseAnyMore();
         atAnyTime();
         Check.end();
@@ -21,6 +24,51 @@ final class DeclareTest {
         Check.is("parent -2", beans.declare(3, -2), false);
         Check.is("the least int", beans.declare(Integer.MIN_VALUE, Integer.MIN_VALUE), false);
         Check.is("the greatest int", beans.declare(Integer.MAX_VALUE, 0), false);
+    }
+
+    /** "CLASSES 0 .. 7. A class may have a PARENT, a lower class" (NONE for none). */
+    private static void eachPair() {
+        WiredBeans beans = new WiredBeans();
+        for (int c = -2; c <= 9; c++) {
+            for (int parent = -3; parent <= 9; parent++) {
+                boolean isTold = c >= 0 && c <= 7 && parent >= -1 && parent < c;
+                Check.is("declare " + c + " with parent " + parent, beans.declare(c, parent), isTold);
+            }
+        }
+    }
+
+    /** "It IS itself and whatever its parent is": the longest line of parents that there can be, and one step less. */
+    private static void upToTheEighth() {
+        WiredBeans beans = Check.eightInOneLine();
+        beans.setter(0, 0, 8);
+        beans.factory(0, 1, true, 6, 0, 0, 0, 0);
+        beans.factory(0, 2, false, 5, 0, 0, 0, 0);
+        Check.with(beans, "<bean id='a' class='K7'><set name='a' ref='a'/></bean><bean id='b' class='K7' method='b'/>"
+                + "<bean id='c' factory='a' method='c'/>");
+        Check.is("the last class is the first one", Check.get(beans, "a"), "0");
+        Check.is("it has the first one's static factory", Check.get(beans, "b"), "1");
+        Check.is("and its other factory", Check.get(beans, "c"), "2");
+        Check.is("events", Check.events(beans), "1 0 7 0/4 0 0 3000/2 1 6 0/2 2 5 1");
+        beans.close();
+        beans.declare(1, -1);
+        Check.is("no setter once the line is cut", Check.get(beans, "a"), "fails 7 at 0");
+        Check.is("no static factory once the line is cut", Check.get(beans, "b"), "fails 5 at 1");
+        beans.setter(1, 0, 9);
+        Check.is("the last class is still the second one", Check.get(beans, "a"), "4");
+        Check.is("no other factory once the line is cut", Check.get(beans, "c"), "fails 5 at 2");
+    }
+
+    /** A refused call leaves the class as it was, parent and all. */
+    private static void refusedTwice() {
+        WiredBeans beans = Check.family();
+        beans.setter(2, 0, 0);
+        Check.with(beans, "<bean id='a' class='K3' scope='many'><set name='a' value='1'/></bean>");
+        Check.is("made", Check.get(beans, "a"), "0");
+        Check.is("itself as its parent", beans.declare(3, 3), false);
+        Check.is("a parent below NONE", beans.declare(3, -2), false);
+        Check.is("made as before", Check.get(beans, "a"), "1");
+        Check.is("NONE as its parent", beans.declare(3, -1), true);
+        Check.is("nothing any more", Check.get(beans, "a"), "fails 5 at 0");
     }
 
     private static void nothingElseAnyMore() {

@@ -5,7 +5,10 @@ final class FactoryTest {
 
     public static void main(String[] args) {
         numbers();
+        eachNumber();
+        eachType();
         room();
+        refusedTakesNoRoom();
         ofOneName();
         staticOrNot();
         Check.end();
@@ -23,6 +26,60 @@ final class FactoryTest {
         Check.is("4 types", beans.factory(0, 0, true, 0, 4, 0, 0, 0), false);
         Check.is("a wrong type", beans.factory(0, 0, true, 0, 3, 0, 0, 5), false);
         Check.is("only the first n count", beans.factory(0, 0, true, 0, 2, 0, 0, 5), true);
+    }
+
+    /** "CLASSES 0 .. 7", names "0 .. 25 for a .. z", "a class that comes of it", "0 .. 3 types". */
+    private static void eachNumber() {
+        for (int c = -2; c <= 9; c++) {
+            boolean isClass = c >= 0 && c <= 7;
+            Check.is("class " + c, new WiredBeans().factory(c, 25, true, 7, 3, 15, 4, 0), isClass);
+            Check.is("result " + c, new WiredBeans().factory(7, 0, false, c, 0, 0, 0, 0), isClass);
+        }
+        for (int name = -2; name <= 27; name++) {
+            Check.is("name " + name, new WiredBeans().factory(0, name, true, 0, 0, 0, 0, 0), name >= 0 && name <= 25);
+        }
+        for (int n = -2; n <= 5; n++) {
+            Check.is(n + " types", new WiredBeans().factory(0, 0, true, 0, n, 0, 0, 0), n >= 0 && n <= 3);
+        }
+        for (int far : new int[] {Integer.MIN_VALUE, Integer.MAX_VALUE}) {
+            Check.is("class " + far, new WiredBeans().factory(far, 0, true, 0, 0, 0, 0, 0), false);
+            Check.is("name " + far, new WiredBeans().factory(0, far, true, 0, 0, 0, 0, 0), false);
+            Check.is("result " + far, new WiredBeans().factory(0, 0, true, far, 0, 0, 0, 0), false);
+            Check.is(far + " types", new WiredBeans().factory(0, 0, true, 0, far, 0, 0, 0), false);
+        }
+    }
+
+    private static void eachType() {
+        for (int type = -2; type <= 17; type++) {
+            boolean isType = type >= 0 && type <= 4 || type >= 8 && type <= 15;
+            for (int n = 0; n <= 3; n++) {
+                WiredBeans beans = new WiredBeans();
+                String what = n + " types with " + type + " at ";
+                Check.is(what + "0", beans.factory(0, 0, true, 0, n, type, 0, 0), isType || n < 1);
+                Check.is(what + "1", beans.factory(0, 0, true, 0, n, 0, type, 0), isType || n < 2);
+                Check.is(what + "2", beans.factory(0, 0, true, 0, n, 0, 0, type), isType || n < 3);
+            }
+        }
+    }
+
+    /** "up to 4 FACTORIES", static or not, of one name or of several: what is refused changes nothing. */
+    private static void refusedTakesNoRoom() {
+        WiredBeans beans = Check.family();
+        Check.is("first", beans.factory(3, 25, true, 1, 0, 0, 0, 0), true);
+        for (int i = 0; i < 5; i++) {
+            beans.factory(3, 26, true, 1, 0, 0, 0, 0);
+            beans.factory(3, 25, true, 8, 0, 0, 0, 0);
+        }
+        Check.is("second", beans.factory(3, 25, false, 2, 0, 0, 0, 0), true);
+        Check.is("third", beans.factory(3, 25, true, 2, 1, 0, 0, 0), true);
+        Check.is("fourth", beans.factory(3, 0, false, 0, 0, 0, 0, 0), true);
+        Check.is("fifth", beans.factory(3, 1, true, 1, 0, 0, 0, 0), false);
+        Check.is("in another class", beans.factory(2, 1, true, 0, 0, 0, 0, 0), true);
+        Check.with(beans, "<bean id='a' class='K3'/><bean id='b' class='K3' method='z'/>"
+                + "<bean id='c' factory='a' method='z'/><bean id='d' class='K3' method='z'><arg value='4'/></bean>"
+                + "<bean id='e' factory='a' method='a'/><bean id='f' class='K3' method='b'/>");
+        Check.is("refresh", Check.refresh(beans), "6");
+        Check.is("events", Check.events(beans), "1 0 3 0/2 1 1 24/2 2 2 25/2 3 2 26/3 3 0 4/2 4 0 27/2 5 0 16");
     }
 
     private static void room() {

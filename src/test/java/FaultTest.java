@@ -6,6 +6,7 @@ final class FaultTest {
     public static void main(String[] args) {
         ofReading();
         ofMaking();
+        eachFailure();
         Check.end();
     }
 
@@ -31,6 +32,34 @@ final class FaultTest {
         for (int what : new int[] {-1, 4, Integer.MIN_VALUE, Integer.MAX_VALUE}) {
             Check.is("fault " + what, beans.fault(what), Check.NONE);
         }
+    }
+
+    /** Each failure at its bean, and that a call without one, or one that is refused, takes it away. */
+    private static void eachFailure() {
+        WiredBeans beans = Check.family();
+        beans.setter(0, 0, 0);
+        Check.with(beans, "<bean id='a' class='K0' depends='x'/><bean id='b' class='K0' depends='p'/>"
+                + "<bean id='c' class='K0' depends='c'/><bean id='p' abstract='yes'/><bean id='d' parent='p'/>"
+                + "<bean id='e' class='K4'/><bean id='f' class='K0' scope='many'/>"
+                + "<bean id='g' class='K0'><set name='b' value='1'/></bean><bean id='h' class='K0'><set name='a' value=''/></bean>"
+                + "<bean id='i' class='K0'/>");
+        Check.is("got", Check.get(beans, "i"), "0");
+        String[] due = {"1 0", "2 1", "3 2", "4 4", "5 5", "7 7", "8 8"};
+        for (int i = 0; i < due.length; i++) {
+            String name = "abcdegh".substring(i, i + 1);
+            Check.get(beans, name);
+            Check.is("failure of " + name, all(beans), "0 -1 " + due[i]);
+            Check.is("got without one", Check.get(beans, "i"), "0");
+            Check.is("none any more", all(beans), "0 -1 0 -1");
+            Check.get(beans, name);
+            Check.is("refused", Check.call(beans, -1, 'a'), "nothing there");
+            Check.is("none any more when refused", all(beans), "0 -1 0 -1");
+        }
+        while (Check.get(beans, "f").matches("\\d+")) {
+            Check.is("none yet", all(beans), "0 -1 0 -1");
+        }
+        Check.is("no room", all(beans), "0 -1 6 6");
+        Check.is("the last object", beans.object(59, 1), 6);
     }
 
     private static void ofMaking() {

@@ -5,14 +5,24 @@ final class GetTest {
 
     public static void main(String[] args) {
         names();
+        allBytes();
         aliases();
+        ringOfAliases();
         scopes();
         cycles();
+        whileBeingMade();
         depends();
+        neitherClassNorFactory();
         orderOfMaking();
         failures();
+        afterAFailure();
         sixtyObjects();
+        sixtyWithin();
         deep();
+        deepThroughArgs();
+        deepWithin();
+        deepThroughFactories();
+        argsStayWhileOthersAreMade();
         Check.end();
     }
 
@@ -30,6 +40,32 @@ final class GetTest {
         Check.is("high bytes", Check.get(beans, "\u00e1\u00ff"), "fails 1 at -1");
     }
 
+    /** "8 bytes of name, the highest first, 0 left out". */
+    private static void allBytes() {
+        WiredBeans beans = Check.family();
+        Check.with(beans, "<bean id='a' class='K0'/><bean id='aaaaaaaa' class='K1'/><bean id='aaaaaaa' class='K2'/>"
+                + "<bean id='zy' class='K3'/>");
+        Check.is("eight", beans.get(0x6161616161616161L), 0);
+        Check.is("seven", beans.get(0x6161616100616161L), 1);
+        for (int shift = 0; shift < 64; shift += 8) {
+            Check.is("one at " + shift, beans.get((long) 'a' << shift), 2);
+        }
+        Check.is("zeros between", beans.get((long) 'z' << 56 | (long) 'y' << 48), 3);
+        Check.is("the other way round", Check.get(beans, "yz"), "fails 1 at -1");
+        for (long name : new long[] {0, -1, Long.MIN_VALUE, Long.MAX_VALUE, 'a' + 128, 'a' - 32, 0x6161616161616162L,
+            (long) 'a' << 56 | 1, 96, 123, '\n', ' '}) {
+            Check.is("name " + name, failsWith(beans, name), "fails 1 at -1");
+        }
+    }
+
+    private static String failsWith(WiredBeans beans, long name) {
+        try {
+            return "" + beans.get(name);
+        } catch (UnsupportedOperationException e) {
+            return "fails " + beans.fault(2) + " at " + beans.fault(3);
+        }
+    }
+
     private static void aliases() {
         WiredBeans beans = Check.family();
         StringBuilder chain = new StringBuilder("<bean id='z' class='K0'/><alias name='z' to='aa'/>");
@@ -41,6 +77,25 @@ final class GetTest {
         Check.is("twenty on", Check.get(beans, "at"), "0");
         Check.is("twenty-one on", Check.get(beans, "au"), "fails 1 at -1");
         Check.is("a ring", Check.get(beans, "x"), "fails 1 at -1");
+    }
+
+    /** An alias may call what stands behind it, nothing, or itself; each name that a bean tells is called so. */
+    private static void ringOfAliases() {
+        WiredBeans beans = Check.family();
+        beans.setter(0, 0, 8);
+        beans.factory(0, 0, false, 1, 0, 0, 0, 0);
+        Check.with(beans, "<alias name='b' to='a'/><alias name='k' to='b'/><alias name='r' to='r'/><alias name='n' to='o'/>"
+                + "<bean id='k' class='K0'/><bean id='c' class='K0' depends='a'><set name='a' ref='a'/>"
+                + "<lookup name='l' bean='a'/></bean><bean id='d' factory='a' method='a'/>"
+                + "<bean id='e' class='K0' depends='r'/>");
+        Check.is("two on", Check.get(beans, "a"), "0");
+        Check.is("itself", Check.get(beans, "r"), "fails 1 at -1");
+        Check.is("nothing", Check.get(beans, "o"), "fails 1 at -1");
+        Check.is("depends and ref", Check.get(beans, "c"), "1");
+        Check.is("factory", Check.get(beans, "d"), "2");
+        Check.is("lookup", Check.call(beans, 1, 'l'), "0");
+        Check.is("depends on a ring", Check.get(beans, "e"), "fails 1 at 3");
+        Check.is("events", Check.events(beans), "1 0 0 0/1 1 0 0/4 1 0 3000/2 2 1 0");
     }
 
     private static void scopes() {
@@ -85,6 +140,35 @@ final class GetTest {
         Check.is("nothing is being made any more", Check.get(beans, "f"), "fails 3 at 5");
     }
 
+    /** "if it is being made: FAILURE 3 if its object has not come to be, else that object": at each step of making. */
+    private static void whileBeingMade() {
+        WiredBeans beans = Check.family();
+        beans.setter(0, 0, 8);
+        beans.setter(0, 1, 4);
+        beans.constructor(0, 1, 8, 0, 0);
+        beans.constructor(0, 1, 4, 0, 0);
+        beans.factory(0, 0, false, 1, 0, 0, 0, 0);
+        Check.with(beans, "<bean id='a' class='K0' depends='a'/><bean id='b' class='K0'><arg ref='b'/></bean>"
+                + "<bean id='c' class='K0'><arg><list><ref bean='c'/></list></arg></bean>"
+                + "<bean id='d' factory='d' method='a'/><bean id='e' class='K0'><set name='a' ref='e'/></bean>"
+                + "<bean id='f' class='K0'><set name='b'><list><ref bean='f'/></list></set></bean>"
+                + "<bean id='g' class='K0' scope='many'><set name='a'><bean class='K0' depends='g'/></set></bean>"
+                + "<bean id='h' class='K0'><set name='a'><bean class='K0' depends='h'/></set></bean>"
+                + "<bean id='i' class='K0'><set name='a'><bean class='K1'><set name='a' ref='j'/></bean></set></bean>"
+                + "<bean id='j' parent='i'/>");
+        Check.is("in depends", Check.get(beans, "a"), "fails 3 at 0");
+        Check.is("in an arg", Check.get(beans, "b"), "fails 3 at 1");
+        Check.is("in a list of an arg", Check.get(beans, "c"), "fails 3 at 2");
+        Check.is("in factory", Check.get(beans, "d"), "fails 3 at 3");
+        Check.is("no object came to be", beans.object(0, 0), Check.NONE);
+        Check.is("in a set", Check.get(beans, "e"), "0");
+        Check.is("in a list of a set", Check.get(beans, "f"), "1");
+        Check.is("of scope many, in a set", Check.get(beans, "g"), "fails 3 at 7");
+        Check.is("its object had come to be", beans.object(2, 1), 6);
+        Check.is("of scope one, in a bean within", Check.get(beans, "h"), "3");
+        Check.is("a bean within that comes to itself", Check.get(beans, "i"), "fails 3 at 12");
+    }
+
     private static void depends() {
         WiredBeans beans = Check.family();
         Check.with(beans, "<bean id='a' abstract='yes'/><bean id='b' parent='a' depends='c'/>"
@@ -95,6 +179,24 @@ final class GetTest {
         Check.is("on nothing", Check.get(beans, "d"), "fails 1 at 3");
         Check.is("on an abstract one", Check.get(beans, "e"), "fails 2 at 4");
         Check.is("by an alias", Check.get(beans, "g"), "2");
+    }
+
+    /** "Then FAILURE 4 if it has neither a class nor a factory (behind depends)", ahead of factory and args. */
+    private static void neitherClassNorFactory() {
+        WiredBeans beans = Check.family();
+        beans.factory(0, 0, true, 1, 0, 0, 0, 0);
+        beans.factory(0, 0, false, 2, 0, 0, 0, 0);
+        Check.with(beans, "<bean id='p' abstract='yes'/><bean id='m' abstract='yes' method='a'/>"
+                + "<bean id='a' parent='p'><arg ref='none'/></bean><bean id='b' parent='m' depends='none'/>"
+                + "<bean id='c' parent='m'/><bean id='d' parent='m' class='K0'/>"
+                + "<bean id='e' parent='p' factory='d' method='a'/><bean id='f' parent='p' class='K2'/>");
+        Check.is("neither, though its arg is none", Check.get(beans, "a"), "fails 4 at 2");
+        Check.is("depends goes ahead", Check.get(beans, "b"), "fails 1 at 3");
+        Check.is("a method alone", Check.get(beans, "c"), "fails 4 at 4");
+        Check.is("a method and a class", Check.get(beans, "d"), "0");
+        Check.is("an object's factory", Check.get(beans, "e"), "1");
+        Check.is("a class alone", Check.get(beans, "f"), "2");
+        Check.is("events", Check.events(beans), "2 0 1 0/2 1 2 1/1 2 2 0");
     }
 
     private static void orderOfMaking() {
@@ -132,6 +234,27 @@ final class GetTest {
         Check.is("failing does not close", beans.bean(2, 10), 1);
     }
 
+    /** "A failure ends all: what was being made is not being made any more; objects and events stay." */
+    private static void afterAFailure() {
+        WiredBeans beans = Check.family();
+        beans.setter(0, 0, 8);
+        beans.setter(0, 1, 3);
+        Check.with(beans, "<bean id='a' class='K0' init='i' destroy='d'><set name='a' ref='b'/><set name='c' value=''/></bean>"
+                + "<bean id='b' class='K1' init='j' destroy='e'><set name='a' ref='a'/></bean>");
+        Check.is("fails", Check.get(beans, "a"), "fails 7 at 0");
+        Check.is("events stay", Check.events(beans), "1 0 0 0/1 1 1 0/4 1 0 3000/5 1 9 0/4 0 0 3001");
+        Check.is("objects stay", beans.object(0, 0) + " " + beans.object(1, 0) + " " + beans.object(2, 0), "0 1 -1");
+        Check.is("made or not", beans.bean(0, 10) + " " + beans.bean(1, 10), "0 1");
+        Check.is("what was made is as it was", Check.get(beans, "b"), "1");
+        Check.is("the other one comes to be anew", Check.get(beans, "a"), "fails 7 at 0");
+        Check.is("a third object", beans.object(2, 1), 0);
+        beans.setter(0, 2, 3);
+        Check.is("and once more", Check.get(beans, "a"), "3");
+        Check.is("closed", beans.close(), 13);
+        Check.is("in the reverse order", Check.events(beans).substring(Check.events(beans).indexOf("/7")),
+                "/7 3 3 0/7 1 4 0");
+    }
+
     private static void sixtyObjects() {
         WiredBeans beans = Check.family();
         Check.with(beans, "<bean id='a' class='K0' scope='many'/><bean id='b' class='K0'><arg value='1'/></bean>");
@@ -147,6 +270,29 @@ final class GetTest {
         Check.is("a new document has room", Check.get(beans, "a"), "0");
     }
 
+    /** "FAILURE 6 if there are 60": the sixtieth comes to be within another one, the sixty-first does not. */
+    private static void sixtyWithin() {
+        WiredBeans beans = Check.family();
+        beans.setter(0, 0, 8);
+        beans.constructor(1, 1, 8, 0, 0);
+        Check.with(beans, "<bean id='a' class='K0' scope='many'/><bean id='b' class='K0' destroy='d'>"
+                + "<set name='a'><bean class='K0'/></set></bean><bean id='c' class='K1'><arg ref='a'/></bean>"
+                + "<bean id='e' class='K2' destroy='f'/>");
+        for (int i = 0; i < 57; i++) {
+            Check.get(beans, "a");
+        }
+        Check.is("58 and 59", Check.get(beans, "b"), "57");
+        Check.is("an object within", beans.object(58, 1), 2);
+        Check.is("no room for both", Check.get(beans, "c"), "fails 6 at 3");
+        Check.is("the sixtieth", beans.object(59, 1), 0);
+        Check.is("no other one", beans.object(60, 1), Check.NONE);
+        Check.is("made is made", Check.get(beans, "b"), "57");
+        Check.is("refresh has no room", Check.refresh(beans), "fails 6 at 1");
+        Check.is("nothing came to be", beans.events(), 0);
+        Check.is("a failure of what is no bean comes first", Check.get(beans, "none"), "fails 1 at -1");
+        Check.is("still none", Check.get(beans, "e"), "fails 6 at 4");
+    }
+
     private static void deep() {
         WiredBeans beans = Check.family();
         StringBuilder chain = new StringBuilder();
@@ -156,6 +302,73 @@ final class GetTest {
         }
         Check.with(beans, chain + "<bean id='" + letters(31) + "' class='K1'/>");
         Check.is("all of a long chain", Check.get(beans, "a"), "31");
+    }
+
+    /** As many beans as a text can hold, each an arg of the one before it. */
+    private static void deepThroughArgs() {
+        WiredBeans beans = Check.family();
+        beans.constructor(0, 1, 8, 0, 0);
+        StringBuilder chain = new StringBuilder();
+        for (int i = 0; i < 24; i++) {
+            chain.append("<bean id='").append(letters(i)).append("' class='K0'><arg ref='").append(letters(i + 1))
+                    .append("'/></bean>");
+        }
+        Check.with(beans, chain + "<bean id='" + letters(24) + "' class='K1'/>");
+        Check.is("all of them", Check.get(beans, "a"), "24");
+        Check.is("the innermost first", beans.object(0, 1), 24);
+    }
+
+    /** Beans within beans, as deep as elements may be, one such line behind the other. */
+    private static void deepWithin() {
+        WiredBeans beans = Check.family();
+        beans.constructor(0, 1, 8, 0, 0);
+        StringBuilder chain = new StringBuilder();
+        for (int i = 0; i < 10; i++) {
+            chain.append("<bean id='").append(letters(i)).append("' class='K0'><arg><bean class='K0'><arg><bean class='K0'")
+                    .append(i == 9 ? "" : " depends='" + letters(i + 1) + "'").append("/></arg></bean></arg></bean>");
+        }
+        Check.with(beans, chain.toString());
+        Check.is("all of them", Check.get(beans, "a"), "29");
+        Check.is("the last line first", beans.object(0, 1) + " " + beans.object(1, 1) + " " + beans.object(2, 1), "29 28 27");
+    }
+
+    private static void deepThroughFactories() {
+        WiredBeans beans = Check.family();
+        beans.factory(0, 0, false, 0, 0, 0, 0, 0);
+        StringBuilder chain = new StringBuilder();
+        for (int i = 0; i < 29; i++) {
+            chain.append("<bean id='").append(letters(i)).append("' factory='").append(letters(i + 1))
+                    .append("' method='a'/>");
+        }
+        Check.with(beans, chain + "<bean id='" + letters(29) + "' class='K0'/>");
+        Check.is("all of them", Check.get(beans, "a"), "29");
+        Check.is("the last one", Check.events(beans).endsWith("/2 29 0 0"), true);
+    }
+
+    /** "Its args are worked out, in order": what was worked out stays while later ones are made with args of their own. */
+    private static void argsStayWhileOthersAreMade() {
+        WiredBeans beans = Check.family();
+        beans.constructor(0, 2, 8, 8, 0);
+        beans.constructor(0, 2, 4, 4, 0);
+        beans.setter(0, 0, 4);
+        Check.with(beans, "<bean id='k' class='K1'/><bean id='l' class='K2'/><bean id='m' class='K0' scope='many'>"
+                + "<arg ref='l'/><arg ref='l'/></bean>"
+                + "<bean id='a' class='K0'><arg ref='k'/><arg><bean class='K0'><arg ref='l'/><arg ref='k'/></bean></arg></bean>"
+                + "<bean id='b' class='K0'><arg ref='k'/><arg ref='m'/></bean>"
+                + "<bean id='c' class='K0'><arg><list><ref bean='k'/><ref bean='m'/></list></arg><arg><list><ref bean='m'/>"
+                + "<null/><ref bean='k'/></list></arg></bean>"
+                + "<bean id='d' class='K1'><set name='a'><list><ref bean='k'/><ref bean='m'/><ref bean='l'/></list></set></bean>");
+        Check.is("k", Check.get(beans, "k"), "0");
+        Check.is("l", Check.get(beans, "l"), "1");
+        Check.is("a bean within", Check.get(beans, "a"), "3");
+        Check.is("a bean of many", Check.get(beans, "b"), "5");
+        Check.is("in lists", Check.get(beans, "c"), "8");
+        Check.is("in a set", Check.get(beans, "d"), "9");
+        Check.is("events", Check.events(beans), "1 0 1 0/1 1 2 0/1 2 0 1/3 2 0 3001/3 2 1 3000/1 3 0 1/3 3 0 3000/3 3 1 3002"
+                + "/1 4 0 1/3 4 0 3001/3 4 1 3001/1 5 0 1/3 5 0 3000/3 5 1 3004"
+                + "/1 6 0 1/3 6 0 3001/3 6 1 3001/1 7 0 1/3 7 0 3001/3 7 1 3001"
+                + "/1 8 0 2/3 8 0 2002/6 -1 0 3000/6 -1 1 3006/3 8 1 2003/6 -1 0 3007/6 -1 1 -1/6 -1 2 3000"
+                + "/1 9 1 0/1 10 0 1/3 10 0 3001/3 10 1 3001/4 9 0 2003/6 -1 0 3000/6 -1 1 3010/6 -1 2 3001");
     }
 
     private static String letters(int i) {

@@ -7,8 +7,13 @@ final class ReadTest {
         counts();
         names();
         parents();
+        parentsInARing();
+        leastFault();
         leavesNothing();
         merged();
+        mergedArgs();
+        mergedNames();
+        mergedFactory();
         Check.end();
     }
 
@@ -35,6 +40,10 @@ final class ReadTest {
         wrong("<bean id='a' class='K0'/>^<alias name='x' to='a'/>");
         wrong("<alias name='x' to='a'/>^<bean id='a' class='K0'/>");
         wrong("<alias name='x' to='a'/>^<alias name='y' to='a'/>");
+        wrong("<bean id='abcdefgh' class='K0'/><bean id='abcdefgi' class='K0'/>^<alias name='x' to='abcdefgh'/>");
+        is("<bean id='abcdefgh' class='K0'/><bean id='abcdefg' class='K0'/><alias name='x' to='abcdefgi'/>", "2");
+        wrong("<alias name='x' to='a'/><alias name='x' to='b'/>^<alias name='x' to='b'/><alias name='x' to='a'/>");
+        is("<bean id='a' class='K0'/><alias name='a' to='b'/><alias name='a' to='c'/><alias name='none' to='d'/>", "1");
         is("<alias name='a' to='b'/><alias name='b' to='a'/>", "0");
         is("<alias name='a' to='a'/>", "0");
         is("<bean id='ab' class='K0'/><bean id='a' class='K0'/><bean id='ba' class='K0'/>", "3");
@@ -53,6 +62,37 @@ final class ReadTest {
         wrong("^<bean id='a' parent='b'/><bean id='c' class='K0'/><bean id='c' class='K0'/>");
         Check.is("fault 2 comes before fault 3",
                 Check.read(new WiredBeans(), "<beans><bean id='a' parent='b'/><x/></beans>"), "throws 2 at 32");
+    }
+
+    /** "a bean's parent ... comes, from parent to parent, to itself": also if the bean is not on the ring itself. */
+    private static void parentsInARing() {
+        wrong("^<bean id='a' parent='a' class='K0'/>");
+        wrong("<bean id='k' class='K0'/>^<bean id='a' parent='b'/><bean id='b' parent='a'/>");
+        wrong("^<bean id='t' parent='a'/><bean id='a' parent='a'/>");
+        wrong("^<bean id='t' parent='a'/><bean id='a' parent='b'/><bean id='b' parent='c'/><bean id='c' parent='a'/>");
+        wrong("^<bean id='s' parent='t'/><bean id='t' parent='a'/><bean id='a' parent='b'/><bean id='b' parent='a'/>");
+        wrong("<bean id='k' class='K0'><arg>^<bean parent='a'/></arg></bean><bean id='a' parent='a'/>");
+        wrong("<bean id='s' parent='k'/><bean id='k' class='K0'/>^<bean id='a' abstract='yes' parent='a'/>");
+        StringBuilder line = new StringBuilder();
+        for (char id = 'a'; id < 'z'; id++) {
+            line.append("<bean id='").append(id).append("' parent='").append((char) (id + 1)).append("'/>");
+        }
+        is(line + "<bean id='z' class='K0'/>", "26");
+        wrong("^" + line + "<bean id='z' parent='a'/>");
+        wrong("^" + line + "<bean id='z' parent='z'/>");
+        wrong(line.toString().replace("<bean id='y'", "^<bean id='y'"));
+    }
+
+    /** "Of several faults the one with the least number is told (1 of the whole document, else 2, else 3)". */
+    private static void leastFault() {
+        String three = "<bean id='a' parent='b'/>";
+        String two = "<bean/>";
+        is(three, "throws 3 at 7");
+        is(three + two, "throws 2 at 32");
+        is(three + two + "&", "throws 1 at 40");
+        is(three + "&", "throws 1 at 33");
+        is(two + "&", "throws 1 at 15");
+        is(two + three, "throws 2 at 7");
     }
 
     private static void leavesNothing() {
@@ -93,5 +133,70 @@ final class ReadTest {
                 "1 0 1 1/3 0 0 7/4 0 0 1/4 0 1 20/4 0 2 3/4 0 4 5/4 0 3 40/5 0 9 0");
         beans.close();
         Check.is("destroy", beans.event(beans.events() - 1, 2), 10);
+    }
+
+    private static String of(WiredBeans beans, int k, int... whats) {
+        StringBuilder all = new StringBuilder();
+        for (int what : whats) {
+            all.append(all.length() == 0 ? "" : " ").append(beans.bean(k, what));
+        }
+        return all.toString();
+    }
+
+    /** "its args, if it has none, are those of the parent": one of its own puts all of them away. */
+    private static void mergedArgs() {
+        WiredBeans beans = Check.family();
+        beans.constructor(0, 1, 0, 0, 0);
+        beans.constructor(0, 2, 0, 0, 0);
+        Check.with(beans, "<bean id='a' class='K0'><arg value='1'/><arg at='0' value='2'/></bean><bean id='b' parent='a'/>"
+                + "<bean id='c' parent='a'><arg value='3'/></bean><bean id='d' parent='c'/>");
+        Check.is("how many", of(beans, 0, 1) + of(beans, 1, 1) + of(beans, 2, 1) + of(beans, 3, 1), "2211");
+        Check.is("refresh", Check.refresh(beans), "4");
+        Check.is("events", Check.events(beans), "1 0 0 2/3 0 0 2/3 0 1 1/1 1 0 2/3 1 0 2/3 1 1 1/1 2 0 1/3 2 0 3"
+                + "/1 3 0 1/3 3 0 3");
+    }
+
+    /** Sets and lookups of parent and child together may be more than one element could have. */
+    private static void mergedNames() {
+        WiredBeans beans = Check.family();
+        StringBuilder above = new StringBuilder();
+        StringBuilder below = new StringBuilder();
+        StringBuilder due = new StringBuilder("1 0 1 0");
+        for (int i = 0; i < 8; i++) {
+            beans.setter(0, i, 0);
+            beans.setter(1, 25 - i, 0);
+            above.append("<set name='").append((char) ('a' + i)).append("' value='1'/>");
+            below.append("<set name='").append((char) ('z' - i)).append("' value='2'/>");
+        }
+        for (int i = 0; i < 16; i++) {
+            due.append("/4 0 ").append(i < 8 ? i : 33 - i).append(i < 8 ? " 1" : " 2");
+        }
+        Check.with(beans, "<bean id='a' abstract='yes'>" + above + "<lookup name='a' bean='b'/><lookup name='b' bean='b'/>"
+                + "</bean><bean id='b' parent='a' class='K1'>" + below + "<lookup name='c' bean='b'/>"
+                + "<lookup name='b' bean='c'/></bean><bean id='c' parent='b'/>");
+        Check.is("the parent", of(beans, 0, 0, 1, 2, 3), "-1 0 8 2");
+        Check.is("the child", of(beans, 1, 0, 1, 2, 3), "1 0 16 3");
+        Check.is("the child's child", of(beans, 2, 0, 1, 2, 3), "1 0 16 3");
+        Check.is("made", Check.get(beans, "b"), "0");
+        Check.is("all sets", Check.events(beans), due.toString());
+        Check.is("the parent's lookup", Check.call(beans, 0, 'a'), "0");
+        Check.is("its own in the place of the parent's", Check.call(beans, 0, 'b'), "1");
+    }
+
+    /** "what a bean with a parent does not tell of class, factory, method, init, destroy is as of the merged parent". */
+    private static void mergedFactory() {
+        WiredBeans beans = Check.family();
+        beans.factory(0, 0, false, 1, 0, 0, 0, 0);
+        beans.factory(0, 1, false, 2, 0, 0, 0, 0);
+        beans.factory(0, 1, true, 3, 0, 0, 0, 0);
+        Check.with(beans, "<bean id='f' class='K0'/><bean id='p' factory='f' method='a' init='i' destroy='d'/>"
+                + "<bean id='q' parent='p' class='K3'/><bean id='r' parent='p' method='b' init='j'/>"
+                + "<bean id='s' parent='f' method='b' destroy='e'/><bean id='t' parent='s' class='K2'/>");
+        Check.is("class besides factory", of(beans, 2, 0, 4, 5, 6), "3 0 8 3");
+        Check.is("another method", of(beans, 3, 0, 4, 5, 6), "-1 1 9 3");
+        Check.is("a method besides class", of(beans, 4, 0, 4, 5, 6), "0 1 -1 4");
+        Check.is("another class", of(beans, 5, 0, 4, 5, 6), "2 1 -1 4");
+        Check.is("refresh", Check.refresh(beans), "6");
+        Check.is("events", Check.events(beans), "1 0 0 0/2 1 1 0/5 1 8 0/2 2 1 0/5 2 8 0/2 3 2 1/5 3 9 0/2 4 3 2/2 5 3 2");
     }
 }

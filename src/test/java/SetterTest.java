@@ -5,7 +5,9 @@ final class SetterTest {
 
     public static void main(String[] args) {
         numbers();
+        eachNumber();
         room();
+        refusedTakesNoRoom();
         nearest();
         Check.end();
     }
@@ -23,6 +25,42 @@ final class SetterTest {
         Check.is("a name again", beans.setter(0, 0, 15), false);
         Check.is("the last name", beans.setter(0, 25, 4), true);
         Check.is("the same name in another class", beans.setter(1, 25, 4), true);
+    }
+
+    /** "CLASSES 0 .. 7", names "0 .. 25 for a .. z", TYPES 0 .. 4 and 8 .. 15. */
+    private static void eachNumber() {
+        for (int c = -2; c <= 9; c++) {
+            Check.is("class " + c, new WiredBeans().setter(c, 25, 15), c >= 0 && c <= 7);
+        }
+        for (int name = -2; name <= 27; name++) {
+            Check.is("name " + name, new WiredBeans().setter(7, name, 0), name >= 0 && name <= 25);
+        }
+        for (int type = -2; type <= 17; type++) {
+            boolean isType = type >= 0 && type <= 4 || type >= 8 && type <= 15;
+            Check.is("type " + type, new WiredBeans().setter(0, 0, type), isType);
+        }
+        for (int far : new int[] {Integer.MIN_VALUE, Integer.MAX_VALUE}) {
+            Check.is("class " + far, new WiredBeans().setter(far, 0, 0), false);
+            Check.is("name " + far, new WiredBeans().setter(0, far, 0), false);
+            Check.is("type " + far, new WiredBeans().setter(0, 0, far), false);
+        }
+    }
+
+    /** "up to 8 SETTERS", "false also if the class has one of that name": what is refused changes nothing. */
+    private static void refusedTakesNoRoom() {
+        WiredBeans beans = new WiredBeans();
+        beans.constructor(3, 0, 0, 0, 0);
+        for (int name = 18; name < 25; name++) {
+            Check.is("setter " + name, beans.setter(3, name, 0), true);
+            Check.is("setter " + name + " again", beans.setter(3, name, 3), false);
+            Check.is("no type", beans.setter(3, 0, 5), false);
+        }
+        Check.is("the eighth", beans.setter(3, 25, 0), true);
+        Check.is("the ninth", beans.setter(3, 0, 0), false);
+        Check.is("the eighth again", beans.setter(3, 25, 0), false);
+        Check.with(beans, "<bean id='a' class='K3'><set name='s' value='5'/></bean>");
+        Check.is("made", Check.get(beans, "a"), "0");
+        Check.is("its type is the first one's", Check.events(beans), "1 0 3 0/4 0 18 5");
     }
 
     private static void room() {

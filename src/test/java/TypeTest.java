@@ -7,6 +7,8 @@ final class TypeTest {
         order();
         characters();
         length();
+        eachByte();
+        lastCall();
         Check.end();
     }
 
@@ -33,6 +35,45 @@ final class TypeTest {
         Check.type(beans, "<beans");
         Check.is("refused", beans.type('x' << 24 | 9, 0, 0, 0, 0), Check.NONE);
         Check.is("none of it came", Check.read(beans, "/>"), "0");
+    }
+
+    /** "four of each, the highest byte first": twenty characters in order, and a wrong one at each of their places. */
+    private static void eachByte() {
+        String twenty = "<beans  a='1' /><!--";
+        WiredBeans beans = new WiredBeans();
+        Check.type(beans, twenty + "-->");
+        Check.is("in order", Check.read(beans), "throws 2 at 0");
+        for (int place = 0; place < 20; place++) {
+            for (int code : new int[] {1, 9, 11, 31, 127, 128, 255}) {
+                int[] fours = new int[5];
+                for (int i = 0; i < 5; i++) {
+                    fours[i] = Check.four(twenty, 4 * i);
+                }
+                int shift = 24 - place % 4 * 8;
+                fours[place / 4] = fours[place / 4] & ~(255 << shift) | code << shift;
+                Check.is(code + " at " + place, beans.type(fours[0], fours[1], fours[2], fours[3], fours[4]), Check.NONE);
+            }
+        }
+        Check.is("none came", beans.type(0, 0, 0, 0, 0), 0);
+        Check.is("a number of all ones", beans.type(-1, 0, 0, 0, 0), Check.NONE);
+    }
+
+    /** "NONE, and none comes, if ... it would have more than 1200": of a call all or nothing comes. */
+    private static void lastCall() {
+        WiredBeans beans = new WiredBeans();
+        int four = Check.four("    ", 0);
+        String start = "<beans>";
+        Check.type(beans, start);
+        for (int length = start.length() + 20; length <= 1187; length += 20) {
+            Check.is("length", beans.type(four, four, four, four, four), length);
+        }
+        Check.is("20 more than 1187", beans.type(four, four, four, four, four), Check.NONE);
+        Check.is("14 more than 1187", beans.type(four, four, four, ' ' << 8 | ' ', 0), Check.NONE);
+        Check.is("a wrong one among too many", beans.type(four, four, four, four, 9), Check.NONE);
+        Check.is("5 more", beans.type(four, ' ', 0, 0, 0), 1192);
+        Check.is("8 more", beans.type(Check.four("</be", 0), Check.four("ans>", 0), 0, 0, 0), 1200);
+        Check.is("the longest text is a document", Check.read(beans), "0");
+        Check.is("the text is empty then", beans.type(0, 0, 0, 0, 0), 0);
     }
 
     private static void length() {
