@@ -34,18 +34,6 @@ final class CallTest {
         Check.end();
     }
 
-    private static String called(WiredBeans beans, int object, int name) {
-        try {
-            return "" + beans.call(object, name);
-        } catch (IllegalStateException e) {
-            return "no document";
-        } catch (IndexOutOfBoundsException e) {
-            return "nothing there";
-        } catch (UnsupportedOperationException e) {
-            return "fails";
-        }
-    }
-
     /** Names 0 .. 25, objects from 0 on: the first and the last of each, and what lies beside them. */
     private static void eachNumber() {
         WiredBeans beans = Check.family();
@@ -56,20 +44,19 @@ final class CallTest {
             for (int name = -2; name <= 27; name++) {
                 boolean ofFirst = object == 0 && (name == 0 || name == 25);
                 String due = ofFirst ? "" + (name == 0 ? 0 : 1) : object == 1 && name == 1 ? "0" : "nothing there";
-                Check.is("lookup " + name + " of object " + object, called(beans, object, name), due);
+                Check.is("lookup " + name + " of object " + object, Check.call(beans, object, name), due);
             }
         }
         for (int far : new int[] {Integer.MIN_VALUE, Integer.MAX_VALUE, 256, -256}) {
-            Check.is("object " + far, called(beans, far, 0), "nothing there");
-            Check.is("name " + far, called(beans, 0, far), "nothing there");
+            Check.is("object " + far, Check.call(beans, far, 0), "nothing there");
+            Check.is("name " + far, Check.call(beans, 0, far), "nothing there");
         }
         for (int i = 2; i < 60; i++) {
             beans.close();
             Check.is("object " + i, Check.get(beans, i % 2 == 0 ? "a" : "b"), "" + i);
         }
-        Check.is("the sixtieth object", called(beans, 59, 1), "fails");
-        Check.is("no room", beans.fault(2) + " " + beans.fault(3), "6 0");
-        Check.is("no sixty-first one", called(beans, 60, 1), "nothing there");
+        Check.is("the sixtieth object", Check.call(beans, 59, 1), "fails 6 at 0");
+        Check.is("no sixty-first one", Check.call(beans, 60, 1), "nothing there");
         Check.is("that is no failure", beans.fault(2) + " " + beans.fault(3), "0 -1");
     }
 
@@ -80,7 +67,7 @@ final class CallTest {
         Check.with(beans, "<bean id='a' class='K0'><set name='a'><bean class='K1'><lookup name='c' bean='m'/></bean></set>"
                 + "<lookup name='x' bean='a'/></bean><bean id='m' class='K2' scope='many'/>");
         Check.is("got", Check.get(beans, "a"), "0");
-        Check.is("refused", called(beans, 0, 1), "nothing there");
+        Check.is("refused", Check.call(beans, 0, 1), "nothing there");
         Check.is("no events", beans.events(), 3);
         Check.is("no objects", beans.object(2, 0), Check.NONE);
         Check.is("of a bean within", Check.call(beans, 1, 'c'), "2");

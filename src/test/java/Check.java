@@ -22,6 +22,11 @@ final class Check {
         System.exit(wrong == 0 ? 0 : 1);
     }
 
+    /** TYPES: 0 int, 1 truth, 2 character, 3 text, 4 row, 8 + c class c. */
+    static boolean isType(int type) {
+        return type >= 0 && type <= 4 || type >= 8 && type <= 15;
+    }
+
     /** Types a whole text with " for each ' so that tests can be read. */
     static void type(WiredBeans beans, String readable) {
         typeExactly(beans, readable.replace('\'', '"'));
@@ -69,8 +74,12 @@ final class Check {
 
     /** What get() answers, or what it throws; of a failure its number and bean. */
     static String get(WiredBeans beans, String name) {
+        return get(beans, name(name));
+    }
+
+    static String get(WiredBeans beans, long name) {
         try {
-            return "" + beans.get(name(name));
+            return "" + beans.get(name);
         } catch (IllegalStateException e) {
             return "no document";
         } catch (UnsupportedOperationException e) {
@@ -88,9 +97,13 @@ final class Check {
         }
     }
 
-    static String call(WiredBeans beans, int object, char name) {
+    static String call(WiredBeans beans, int object, char letter) {
+        return call(beans, object, letter - 'a');
+    }
+
+    static String call(WiredBeans beans, int object, int name) {
         try {
-            return "" + beans.call(object, name - 'a');
+            return "" + beans.call(object, name);
         } catch (IllegalStateException e) {
             return "no document";
         } catch (IndexOutOfBoundsException e) {

@@ -33,13 +33,12 @@ final class ConstructorTest {
     /** "TYPES: 0 int, 1 truth, 2 character, 3 text, 4 row, 8 + c class c", at each place, and "of a, b, b2 the first n". */
     private static void eachType() {
         for (int type = -2; type <= 17; type++) {
-            boolean isType = type >= 0 && type <= 4 || type >= 8 && type <= 15;
             for (int n = 0; n <= 3; n++) {
                 WiredBeans beans = new WiredBeans();
                 String what = n + " types with " + type + " at ";
-                Check.is(what + "0", beans.constructor(0, n, type, 0, 0), isType || n < 1);
-                Check.is(what + "1", beans.constructor(0, n, 0, type, 0), isType || n < 2);
-                Check.is(what + "2", beans.constructor(0, n, 0, 0, type), isType || n < 3);
+                Check.is(what + "0", beans.constructor(0, n, type, 0, 0), Check.isType(type) || n < 1);
+                Check.is(what + "1", beans.constructor(0, n, 0, type, 0), Check.isType(type) || n < 2);
+                Check.is(what + "2", beans.constructor(0, n, 0, 0, type), Check.isType(type) || n < 3);
             }
         }
     }

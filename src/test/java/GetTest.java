@@ -54,15 +54,7 @@ final class GetTest {
         Check.is("the other way round", Check.get(beans, "yz"), "fails 1 at -1");
         for (long name : new long[] {0, -1, Long.MIN_VALUE, Long.MAX_VALUE, 'a' + 128, 'a' - 32, 0x6161616161616162L,
             (long) 'a' << 56 | 1, 96, 123, '\n', ' '}) {
-            Check.is("name " + name, failsWith(beans, name), "fails 1 at -1");
-        }
-    }
-
-    private static String failsWith(WiredBeans beans, long name) {
-        try {
-            return "" + beans.get(name);
-        } catch (UnsupportedOperationException e) {
-            return "fails " + beans.fault(2) + " at " + beans.fault(3);
+            Check.is("name " + name, Check.get(beans, name), "fails 1 at -1");
         }
     }
 

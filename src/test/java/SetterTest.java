@@ -36,8 +36,7 @@ final class SetterTest {
             Check.is("name " + name, new WiredBeans().setter(7, name, 0), name >= 0 && name <= 25);
         }
         for (int type = -2; type <= 17; type++) {
-            boolean isType = type >= 0 && type <= 4 || type >= 8 && type <= 15;
-            Check.is("type " + type, new WiredBeans().setter(0, 0, type), isType);
+            Check.is("type " + type, new WiredBeans().setter(0, 0, type), Check.isType(type));
         }
         for (int far : new int[] {Integer.MIN_VALUE, Integer.MAX_VALUE}) {
             Check.is("class " + far, new WiredBeans().setter(far, 0, 0), false);
