@@ -9,6 +9,7 @@ final class DocumentTest {
         names();
         tags();
         attributes();
+        asManyAttributesAsFit();
         entities();
         lengthOfValues();
         lengthOfText();
@@ -125,6 +126,15 @@ final class DocumentTest {
         wrong("<x" + twelve + " ^m=''/>");
         wrong("<x" + twelve + " ^a=''/>");
         wrong("<x" + twelve + " /^ >");
+    }
+
+    /** No limit is told for the attributes of all elements together: a text of 1200 has room for some 220. */
+    private static void asManyAttributesAsFit() {
+        String twelve = " a='' b='' c='' d='' e='' f='' g='' h='' i='' j='' k='' l=''";
+        String text = "<x" + twelve + ">" + ("<y" + twelve + "/>").repeat(17);
+        fine(text + "</x>");
+        wrong(text + "</x ^y>");
+        wrong("<x" + twelve + ">" + ("<y" + twelve + "/>").repeat(16) + "<y" + twelve + " ^m=''/></x>");
     }
 
     private static void entities() {

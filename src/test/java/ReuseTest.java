@@ -49,6 +49,9 @@ final class ReuseTest {
         Check.is("only aliases", Check.read(beans, "<beans><alias name='q' to='a'/><alias name='q' to='b'/></beans>"), "0");
         Check.is("an alias of nothing", Check.get(beans, "a"), "fails 1 at -1");
         Check.is("an alias of before", Check.get(beans, "x"), "fails 1 at -1");
+        Check.with(beans, "<bean id='b' class='K0'/><alias name='b' to='x'/><alias name='b' to='y'/>");
+        Check.with(beans, "<bean id='b' class='K0'/>");
+        Check.is("an alias that stood just behind the last element", Check.get(beans, "x"), "fails 1 at -1");
         Check.is("nothing in it", Check.read(beans, "<beans/>"), "0");
         Check.is("refresh of nothing", Check.refresh(beans), "0");
     }
