@@ -1440,17 +1440,17 @@ public final class WiredBeans {
             if (child.parent == 0) {
                 return true;
             }
-            Bean above = withId(child.parent);
-            return above != null && comesToAnEnd(above);
+            Bean parent = withId(child.parent);
+            return parent != null && !comesToItself(parent);
         }
 
-        /** A line of parents longer than there can be beans runs in a ring. */
-        private boolean comesToAnEnd(Bean start) {
-            Bean above = start;
-            for (int up = 0; up < Paper.MOST_ELEMENTS && above != null; up++) {
+        /** The bound ends a walk that runs into a ring on which start does not lie: that is no fault of start. */
+        private boolean comesToItself(Bean start) {
+            Bean above = withId(start.parent);
+            for (int up = 1; up < Paper.MOST_ELEMENTS && above != null && above != start; up++) {
                 above = withId(above.parent);
             }
-            return above == null;
+            return above == start;
         }
 
         private void merge(Bean merged) {

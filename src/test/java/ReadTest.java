@@ -8,6 +8,8 @@ final class ReadTest {
         names();
         parents();
         parentsInARing();
+        parentsAheadOfARing();
+        parentOnARing();
         leastFault();
         leavesNothing();
         merged();
@@ -64,23 +66,66 @@ final class ReadTest {
                 Check.read(new WiredBeans(), "<beans><bean id='a' parent='b'/><x/></beans>"), "throws 2 at 32");
     }
 
-    /** "a bean's parent ... comes, from parent to parent, to itself": also if the bean is not on the ring itself. */
+    /** "a bean's parent ... comes, from parent to parent, to itself". */
     private static void parentsInARing() {
         wrong("^<bean id='a' parent='a' class='K0'/>");
-        wrong("<bean id='k' class='K0'/>^<bean id='a' parent='b'/><bean id='b' parent='a'/>");
-        wrong("^<bean id='t' parent='a'/><bean id='a' parent='a'/>");
-        wrong("^<bean id='t' parent='a'/><bean id='a' parent='b'/><bean id='b' parent='c'/><bean id='c' parent='a'/>");
-        wrong("^<bean id='s' parent='t'/><bean id='t' parent='a'/><bean id='a' parent='b'/><bean id='b' parent='a'/>");
-        wrong("<bean id='k' class='K0'><arg>^<bean parent='a'/></arg></bean><bean id='a' parent='a'/>");
         wrong("<bean id='s' parent='k'/><bean id='k' class='K0'/>^<bean id='a' abstract='yes' parent='a'/>");
-        StringBuilder line = new StringBuilder();
-        for (char id = 'a'; id < 'z'; id++) {
-            line.append("<bean id='").append(id).append("' parent='").append((char) (id + 1)).append("'/>");
-        }
+        wrong("<bean id='k' class='K0'/>^<bean id='a' parent='b'/><bean id='b' parent='a'/>");
+        wrong("<bean id='k' class='K0'/>^<bean id='c' parent='a'/><bean id='a' parent='b'/><bean id='b' parent='c'/>");
+        String line = lineOfParents('a', 'z');
         is(line + "<bean id='z' class='K0'/>", "26");
         wrong("^" + line + "<bean id='z' parent='a'/>");
-        wrong("^" + line + "<bean id='z' parent='z'/>");
-        wrong(line.toString().replace("<bean id='y'", "^<bean id='y'"));
+        wrong("^" + longestRing());
+        wrong(line.replace("<bean id='y'", "^<bean id='y'"));
+    }
+
+    /** Two or more steps lead to a ring on which neither the bean nor its parent lies: neither of them comes to itself. */
+    private static void parentsAheadOfARing() {
+        wrong("<bean id='x' parent='y'/>^<bean id='a' parent='a'/><bean id='y' parent='a'/>");
+        wrong("<bean id='x' parent='y'/>^<bean id='a' parent='b'/><bean id='y' parent='b'/><bean id='b' parent='a'/>");
+        wrong("<bean id='x' parent='y'/>^<bean id='c' parent='a'/><bean id='b' parent='c'/><bean id='a' parent='b'/>"
+                + "<bean id='y' parent='a'/>");
+        wrong("<bean id='x' parent='y'/><bean id='y' parent='z'/>^<bean id='a' parent='a'/><bean id='z' parent='a'/>");
+        wrong("<bean id='x' parent='y'/><bean id='w' parent='y'/>^<bean id='a' parent='a'/><bean id='y' parent='a'/>");
+        wrong("<bean id='k' class='K0'><arg><bean parent='y'/></arg></bean>^<bean id='a' parent='a'/>"
+                + "<bean id='y' parent='a'/>");
+        wrong("<bean id='x' parent='y'/>^<bean id='q' parent='none'/><bean id='a' parent='a'/><bean id='y' parent='a'/>");
+        wrong("<bean id='x' parent='y'/>^<alias name='n' to='x'/><bean id='a' parent='a'/><bean id='y' parent='a'/>");
+        String line = lineOfParents('a', 'y');
+        wrong(line + "^<bean id='z' parent='z'/><bean id='y' parent='z'/>");
+        wrong(line + "^<bean id='z' parent='zz'/><bean id='zz' parent='z'/><bean id='y' parent='z'/>");
+    }
+
+    /** One step leads to a ring: the bean is not on it, but its parent comes to itself. */
+    private static void parentOnARing() {
+        wrong("^<bean id='t' parent='a'/><bean id='a' parent='a'/>");
+        wrong("^<bean id='t' parent='a'/><bean id='a' parent='b'/><bean id='b' parent='c'/><bean id='c' parent='a'/>");
+        wrong("<bean id='k' class='K0'><arg>^<bean parent='a'/></arg></bean><bean id='a' parent='a'/>");
+        wrong("<bean id='s' parent='t'/>^<bean id='t' parent='a'/><bean id='a' parent='b'/><bean id='b' parent='a'/>");
+        wrong(lineOfParents('a', 'y') + "^<bean id='y' parent='z'/><bean id='z' parent='z'/>");
+    }
+
+    /** Beans from the first letter on, each with the next one as its parent; the last letter has no bean of its own. */
+    private static String lineOfParents(char first, char last) {
+        StringBuilder line = new StringBuilder();
+        for (char id = first; id < last; id++) {
+            line.append("<bean id='").append(id).append("' parent='").append((char) (id + 1)).append("'/>");
+        }
+        return line.toString();
+    }
+
+    /** As many beans as a text of 1200 characters has room for. */
+    private static String longestRing() {
+        StringBuilder ring = new StringBuilder();
+        int beans = 45;
+        for (int k = 0; k < beans; k++) {
+            ring.append("<bean id='").append(shortId(k)).append("' parent='").append(shortId((k + 1) % beans)).append("'/>");
+        }
+        return ring.toString();
+    }
+
+    private static String shortId(int k) {
+        return k < 26 ? "" + (char) ('a' + k) : "a" + (char) ('a' + k - 26);
     }
 
     /** "Of several faults the one with the least number is told (1 of the whole document, else 2, else 3)". */
