@@ -5,6 +5,7 @@ final class BeanTest {
 
     public static void main(String[] args) {
         asMerged();
+        eachAlone();
         made();
         madeWithin();
         wrongNumbers();
@@ -33,6 +34,22 @@ final class BeanTest {
         Check.is("a child", all(beans, 1), "4 1 3 2 12 8 3 0 0 0 0 " + (before + text.indexOf("<bean id='b'")));
         Check.is("one within", all(beans, 2), "-1 0 0 0 25 -1 -1 0 0 0 0 " + (before + text.indexOf("<bean factory")));
         Check.is("a child's child", all(beans, 3), "0 1 3 2 12 0 3 0 0 0 0 " + (before + text.indexOf("<bean id='c'")));
+    }
+
+    /** Each attribute and each element alone: only its own number tells it. */
+    private static void eachAlone() {
+        String[] alone = {"abstract='yes'/>", "scope='many'/>", "lazy='yes'/>", "method='b'/>", "init='c'/>", "destroy='d'/>",
+            "><arg value=''/></bean>", "><set name='a' value=''/></bean>", "><lookup name='a' bean='a'/></bean>",
+            "abstract='no' scope='one' lazy='no' depends='a'/>"};
+        String[] due = {"5 0 0 0 -1 -1 -1 1 0 0 0 7", "5 0 0 0 -1 -1 -1 0 1 0 0 7", "5 0 0 0 -1 -1 -1 0 0 1 0 7",
+            "5 0 0 0 1 -1 -1 0 0 0 0 7", "5 0 0 0 -1 2 -1 0 0 0 0 7", "5 0 0 0 -1 -1 3 0 0 0 0 7",
+            "5 1 0 0 -1 -1 -1 0 0 0 0 7", "5 0 1 0 -1 -1 -1 0 0 0 0 7", "5 0 0 1 -1 -1 -1 0 0 0 0 7",
+            "5 0 0 0 -1 -1 -1 0 0 0 0 7"};
+        for (int i = 0; i < alone.length; i++) {
+            WiredBeans beans = new WiredBeans();
+            Check.with(beans, "<bean id='a' class='K5' " + alone[i]);
+            Check.is(alone[i], all(beans, 0), due[i]);
+        }
     }
 
     private static void made() {

@@ -4,6 +4,14 @@ final class CallTest {
     }
 
     public static void main(String[] args) {
+        lookups();
+        eachNumber();
+        refused();
+        Check.end();
+    }
+
+    /** "The lookup with a name of the bean that an object was made by: what its bean calls is got." */
+    private static void lookups() {
         WiredBeans beans = Check.family();
         Check.is("without a document", Check.call(beans, 0, 'a'), "no document");
         Check.with(beans, "<bean id='a' class='K0'><lookup name='x' bean='m'/><lookup name='y' bean='o'/></bean>"
@@ -29,9 +37,6 @@ final class CallTest {
         Check.is("an object of a bean that is not made any more", Check.call(beans, 0, 'y'), "6");
         Check.read(beans, "");
         Check.is("no document any more", Check.call(beans, 0, 'y'), "no document");
-        eachNumber();
-        refused();
-        Check.end();
     }
 
     /** Names 0 .. 25, objects from 0 on: the first and the last of each, and what lies beside them. */

@@ -4,6 +4,14 @@ final class CloseTest {
     }
 
     public static void main(String[] args) {
+        whichBeans();
+        reverseOrder();
+        behindAFault();
+        Check.end();
+    }
+
+    /** "the objects of made beans of scope one ... with destroy: event 7 ... then none is made (objects and events stay)". */
+    private static void whichBeans() {
         WiredBeans beans = Check.family();
         beans.setter(0, 0, 8);
         Check.is("without a document", beans.close(), 0);
@@ -25,9 +33,6 @@ final class CloseTest {
         Check.is("objects stay", beans.object(0, 0), 0);
         Check.is("made again", Check.get(beans, "c"), "8");
         Check.is("and closed again", beans.close(), before + 6);
-        reverseOrder();
-        behindAFault();
-        Check.end();
     }
 
     /** "in the reverse order in which they were made": a bean is made behind its sets, whenever its object came to be. */

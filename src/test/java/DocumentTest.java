@@ -172,6 +172,8 @@ final class DocumentTest {
         fine("<a>" + full.substring(0, 12) + "<b>" + full + "</b>" + full.substring(12) + "</a>");
         fine("<a>a" + " ".repeat(22) + "b</a>");
         wrong("<a>a" + " ".repeat(23) + "^b</a>");
+        fine("<a> a b c d\ne f g h i j k lm </a>");
+        wrong("<a> a b c d\ne f g h i j k lm^n</a>");
         wrong("<a>" + full + "^y</a>");
         wrong("<a>" + full + "&lt^;</a>");
         wrong("<a>" + full + white + "^y</a>");

@@ -11,6 +11,7 @@ final class FactoryTest {
         refusedTakesNoRoom();
         ofOneName();
         staticOrNot();
+        classThatComesOfIt();
         Check.end();
     }
 
@@ -117,5 +118,26 @@ final class FactoryTest {
         Check.is("a static one", Check.get(beans, "b"), "2");
         Check.is("one that is not static is no static one", Check.get(beans, "c"), "fails 5 at 3");
         Check.is("events", Check.events(beans), "1 0 2 0/2 1 1 0/2 2 3 16");
+    }
+
+    /** "a class that comes of it": its object is of that class, not of the bean's, wherever an object's class counts. */
+    private static void classThatComesOfIt() {
+        WiredBeans beans = Check.family();
+        beans.factory(1, 0, true, 3, 0, 0, 0, 0);
+        beans.factory(1, 1, false, 1, 0, 0, 0, 0);
+        beans.factory(2, 1, false, 0, 0, 0, 0, 0);
+        beans.setter(1, 0, 3);
+        beans.setter(3, 0, 0);
+        beans.constructor(0, 1, 9, 0, 0);
+        beans.constructor(0, 1, 10, 0, 0);
+        Check.with(beans, "<bean id='a' class='K1' method='a'><set name='a' value='5'/></bean>"
+                + "<bean id='b' factory='a' method='b'/><bean id='c' class='K0'><arg ref='a'/></bean>"
+                + "<bean id='d' class='K1' method='a'><set name='a' value='x'/></bean>");
+        Check.is("its setter", Check.get(beans, "a"), "0");
+        Check.is("its factory", Check.get(beans, "b"), "1");
+        Check.is("its weight", Check.get(beans, "c"), "2");
+        Check.is("its setter alone", Check.get(beans, "d"), "fails 8 at 3");
+        Check.is("events", Check.events(beans), "2 0 3 8/4 0 0 5/2 1 0 16/1 2 0 2/3 2 0 3000/2 3 3 8");
+        Check.is("the bean's own class", beans.bean(0, 0), 1);
     }
 }

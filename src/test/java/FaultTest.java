@@ -7,6 +7,7 @@ final class FaultTest {
         ofReading();
         ofMaking();
         eachFailure();
+        innermost();
         Check.end();
     }
 
@@ -60,6 +61,27 @@ final class FaultTest {
         }
         Check.is("no room", all(beans), "0 -1 6 6");
         Check.is("the last object", beans.object(59, 1), 6);
+    }
+
+    /** "the innermost one that was being made": what has been made by then is not being made any more. */
+    private static void innermost() {
+        WiredBeans beans = Check.family();
+        beans.setter(0, 0, 8);
+        Check.with(beans, "<bean id='a' class='K0'><set name='a'><bean class='K1'><set name='a' ref='b'/></bean></set>"
+                + "<set name='b' value=''/></bean><bean id='b' class='K2'/>"
+                + "<bean id='c' class='K0' depends='d'><arg ref='b'/></bean><bean id='d' class='K0' depends='b'/>"
+                + "<bean id='e' class='K0' depends='d'><set name='a'><bean class='K1' depends='none'/></set></bean>");
+        Check.is("made", Check.get(beans, "b"), "0");
+        Check.get(beans, "none");
+        Check.is("none was being made", all(beans), "0 -1 1 -1");
+        Check.get(beans, "a");
+        Check.is("the outer one again", all(beans), "0 -1 7 0");
+        Check.get(beans, "c");
+        Check.is("behind depends and args", all(beans), "0 -1 5 3");
+        Check.get(beans, "e");
+        Check.is("the one within", all(beans), "0 -1 1 6");
+        Check.get(beans, "none");
+        Check.is("none behind a failure", all(beans), "0 -1 1 -1");
     }
 
     private static void ofMaking() {

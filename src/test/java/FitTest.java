@@ -9,6 +9,7 @@ final class FitTest {
         objects();
         nulls();
         lists();
+        fullLists();
         places();
         types();
         least();
@@ -114,6 +115,22 @@ final class FitTest {
                 + "<arg><list><bean class='K1'/><ref bean='k'/></list></arg>", of(4, 4)),
                 "1 0 1 0/1 1 3 0/1 2 0 0/3 2 0 2002/6 -1 0 1001/6 -1 1 -1/3 2 1 2002/6 -1 0 3000/6 -1 1 3001");
         Check.is("worked out before none fits", made("<arg><list><ref bean='none'/></list></arg>"), "fails 1 at 0");
+    }
+
+    /** "each one is worked out, in order": three full lists, each of whose parts is told in its place. */
+    private static void fullLists() {
+        StringBuilder args = new StringBuilder();
+        StringBuilder due = new StringBuilder("1 0 0 0");
+        for (int arg = 0; arg < 3; arg++) {
+            args.append("<arg><list>");
+            due.append("/3 0 ").append(arg).append(" 2006");
+            for (int i = 0; i < 6; i++) {
+                args.append("<value>").append("x".repeat(6 * arg + i)).append("</value>");
+                due.append("/6 -1 ").append(i).append(" ").append(1000 + 6 * arg + i);
+            }
+            args.append("</list></arg>");
+        }
+        Check.is("three full lists", made(args.toString(), of(4, 4, 4)), due.toString());
     }
 
     private static void places() {

@@ -23,6 +23,7 @@ final class GetTest {
         deepWithin();
         deepThroughFactories();
         argsStayWhileOthersAreMade();
+        fullListsStay();
         Check.end();
     }
 
@@ -361,6 +362,37 @@ final class GetTest {
                 + "/1 6 0 1/3 6 0 3001/3 6 1 3001/1 7 0 1/3 7 0 3001/3 7 1 3001"
                 + "/1 8 0 2/3 8 0 2002/6 -1 0 3000/6 -1 1 3006/3 8 1 2003/6 -1 0 3007/6 -1 1 -1/6 -1 2 3000"
                 + "/1 9 1 0/1 10 0 1/3 10 0 3001/3 10 1 3001/4 9 0 2003/6 -1 0 3000/6 -1 1 3010/6 -1 2 3001");
+    }
+
+    /** The same with two full lists, behind which a bean within, and one within that, work out full lists of their own. */
+    private static void fullListsStay() {
+        WiredBeans beans = new WiredBeans();
+        beans.constructor(0, 3, 4, 4, 9);
+        beans.constructor(1, 2, 4, 9, 0);
+        beans.constructor(1, 1, 4, 0, 0);
+        Check.with(beans, "<bean id='a' class='K0'><arg>" + list(0) + "</arg><arg>" + list(6) + "</arg><arg ref='b'/></bean>"
+                + "<bean id='b' class='K1'><arg>" + list(12) + "</arg><arg ref='c'/></bean>"
+                + "<bean id='c' class='K1'><arg>" + list(18) + "</arg></bean>");
+        Check.is("the innermost first", Check.get(beans, "a"), "2");
+        Check.is("events", Check.events(beans), "1 0 1 1/3 0 0 2006" + parts(18) + "/1 1 1 0/3 1 0 2006" + parts(12)
+                + "/3 1 1 3000/1 2 0 0/3 2 0 2006" + parts(0) + "/3 2 1 2006" + parts(6) + "/3 2 2 3001");
+    }
+
+    /** Six texts, the first one of that length, each longer by one. */
+    private static String list(int length) {
+        StringBuilder all = new StringBuilder("<list>");
+        for (int i = 0; i < 6; i++) {
+            all.append("<value>").append("x".repeat(length + i)).append("</value>");
+        }
+        return all.append("</list>").toString();
+    }
+
+    private static String parts(int length) {
+        StringBuilder all = new StringBuilder();
+        for (int i = 0; i < 6; i++) {
+            all.append("/6 -1 ").append(i).append(" ").append(1000 + length + i);
+        }
+        return all.toString();
     }
 
     private static String letters(int i) {

@@ -4,6 +4,13 @@ final class ObjectTest {
     }
 
     public static void main(String[] args) {
+        classAndBean();
+        upToSixty();
+        Check.end();
+    }
+
+    /** "its class (0), by which bean it was made (1)". */
+    private static void classAndBean() {
         WiredBeans beans = Check.family();
         beans.factory(2, 0, true, 3, 0, 0, 0, 0);
         beans.setter(0, 0, 8);
@@ -23,8 +30,6 @@ final class ObjectTest {
         Check.is("its class stays", beans.object(0, 0), 1);
         beans.close();
         Check.is("it stays when closed", beans.object(3, 1), 3);
-        upToSixty();
-        Check.end();
     }
 
     /** "from 0 on as they come to be (at most 60 since the document was read)". */
