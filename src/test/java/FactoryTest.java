@@ -12,6 +12,7 @@ final class FactoryTest {
         ofOneName();
         staticOrNot();
         classThatComesOfIt();
+        threeTypes();
         Check.end();
     }
 
@@ -139,5 +140,27 @@ final class FactoryTest {
         Check.is("its setter alone", Check.get(beans, "d"), "fails 8 at 3");
         Check.is("events", Check.events(beans), "2 0 3 8/4 0 0 5/2 1 0 16/1 2 0 2/3 2 0 3000/2 3 3 8");
         Check.is("the bean's own class", beans.bean(0, 0), 1);
+    }
+
+    /** "of whose types there are n": each type at its own place, also the third one, and none behind the n-th. */
+    private static void threeTypes() {
+        WiredBeans beans = Check.family();
+        beans.factory(0, 0, true, 1, 3, 0, 3, 4);
+        beans.factory(0, 0, true, 1, 3, 4, 0, 2);
+        beans.factory(0, 0, true, 2, 2, 3, 2, 0);
+        beans.factory(0, 0, false, 3, 1, 1, 0, 0);
+        String list = "<arg><list/></arg>";
+        Check.with(beans, "<bean id='a' class='K0' method='a'><arg value='1'/><arg value='x'/>" + list + "</bean>"
+                + "<bean id='b' class='K0' method='a'>" + list + "<arg value='1'/><arg value='x'/></bean>"
+                + "<bean id='c' class='K0' method='a'><arg value='1'/><arg value='x'/></bean>"
+                + "<bean id='d' factory='a' method='a'><arg value='true'/></bean>"
+                + "<bean id='e' class='K0' method='a'><arg value='1'/>" + list + "<arg value='x'/></bean>");
+        Check.is("int, text, row", Check.get(beans, "a"), "0");
+        Check.is("row, int, character", Check.get(beans, "b"), "1");
+        Check.is("text, character", Check.get(beans, "c"), "2");
+        Check.is("truth", Check.get(beans, "d"), "3");
+        Check.is("in no other order", Check.get(beans, "e"), "fails 5 at 4");
+        Check.is("events", Check.events(beans), "2 0 1 0/3 0 0 1/3 0 1 1001/3 0 2 2000/2 1 1 1/3 1 0 2000/3 1 1 1/3 1 2 120"
+                + "/2 2 2 2/3 2 0 1001/3 2 1 120/2 3 3 3/3 3 0 1");
     }
 }

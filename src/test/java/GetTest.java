@@ -364,18 +364,20 @@ final class GetTest {
                 + "/1 9 1 0/1 10 0 1/3 10 0 3001/3 10 1 3001/4 9 0 2003/6 -1 0 3000/6 -1 1 3010/6 -1 2 3001");
     }
 
-    /** The same with two full lists, behind which a bean within, and one within that, work out full lists of their own. */
+    /** The same with full lists, of which the last part of the last one is a bean with a full list of its own, and so on. */
     private static void fullListsStay() {
         WiredBeans beans = new WiredBeans();
-        beans.constructor(0, 3, 4, 4, 9);
+        beans.constructor(0, 3, 4, 4, 4);
         beans.constructor(1, 2, 4, 9, 0);
         beans.constructor(1, 1, 4, 0, 0);
-        Check.with(beans, "<bean id='a' class='K0'><arg>" + list(0) + "</arg><arg>" + list(6) + "</arg><arg ref='b'/></bean>"
-                + "<bean id='b' class='K1'><arg>" + list(12) + "</arg><arg ref='c'/></bean>"
+        String last = list(3).replace("<value>" + "x".repeat(8) + "</value>", "<ref bean='b'/>");
+        Check.with(beans, "<bean id='a' class='K0'><arg>" + list(0) + "</arg><arg>" + list(6) + "</arg><arg>" + last
+                + "</arg></bean><bean id='b' class='K1'><arg>" + list(12) + "</arg><arg ref='c'/></bean>"
                 + "<bean id='c' class='K1'><arg>" + list(18) + "</arg></bean>");
         Check.is("the innermost first", Check.get(beans, "a"), "2");
         Check.is("events", Check.events(beans), "1 0 1 1/3 0 0 2006" + parts(18) + "/1 1 1 0/3 1 0 2006" + parts(12)
-                + "/3 1 1 3000/1 2 0 0/3 2 0 2006" + parts(0) + "/3 2 1 2006" + parts(6) + "/3 2 2 3001");
+                + "/3 1 1 3000/1 2 0 0/3 2 0 2006" + parts(0) + "/3 2 1 2006" + parts(6) + "/3 2 2 2006"
+                + parts(3).replace("1008", "3001"));
     }
 
     /** Six texts, the first one of that length, each longer by one. */
